@@ -151,7 +151,13 @@ public final class ChurchOrgan {
     }
 
     public int blow(int t, int beat, int tone) {
-        return blowOnce(t, beat, tone);
+        if (!told.hasTower(t) || beat < 0 || beat > LAST_BEAT || !isWithin(tone, TONES)) {
+            return BAD;
+        }
+        if (!told.hasPipe(t, tone)) {
+            return STATE;
+        }
+        return blows.add(t, beat, tone) ? blows.count : FULL;
     }
 
     public int silence() {
@@ -535,7 +541,7 @@ public final class ChurchOrgan {
                 readFault = INDEX_FAULT;
                 return i;
             }
-            if (blowOnce(row.cells[at], row.cells[at + 1], row.cells[at + 2]) < 0) {
+            if (blow(row.cells[at], row.cells[at + 1], row.cells[at + 2]) < 0) {
                 blows.count = before;
                 return -20 - i;
             }
@@ -575,16 +581,6 @@ public final class ChurchOrgan {
 
     private static boolean isWithin(int i, int many) {
         return i >= 0 && i < many;
-    }
-
-    private int blowOnce(int t, int beat, int tone) {
-        if (!told.hasTower(t) || beat < 0 || beat > LAST_BEAT || !isWithin(tone, TONES)) {
-            return BAD;
-        }
-        if (!told.hasPipe(t, tone)) {
-            return STATE;
-        }
-        return blows.add(t, beat, tone) ? blows.count : FULL;
     }
 
     private int comes(int i, int cell) {

@@ -190,9 +190,12 @@ public final class ImagesTest {
         x.lay(1, 1, -129);
         check.due("with a sign", x.read(1, 0, 0, 1), 1);
         check.due("beat", x.blown(1, 1), 127);
+        row(x, 1, 1, 2, 3);
         x.sheet(1, 1, 3);
         check.due("a new row is of 0", x.read(1, 1, 0, 1), 1);
+        check.due("tower", x.blown(2, 0), 0);
         check.due("beat", x.blown(2, 1), 0);
+        check.due("tone", x.blown(2, 2), 0);
         row(x, 1, 65536, 65536 + 200, 0);
         check.due("shorts", x.read(1, 1, 0, 1), 1);
         check.due("beat", x.blown(3, 1), 200);

@@ -15,6 +15,7 @@ public final class TextTest {
         faultFive();
         faultSix();
         firstFaultMet();
+        cutTokens();
         askedOfTheLand();
         wind();
         carry();
@@ -216,6 +217,8 @@ public final class TextTest {
         fault("tower 5 0 0;ground 5 9;", 6, 23);
         fault("ground 9 5;tower 0 5 0;  ", 6, 25);
         fault("ground 5 5;hill 4 4;hill 5 4;", 6, 29);
+        fault("ground 5 5;hill 4 5;hill 4 4;", 6, 29);
+        fault("ground 5 5;tower 4 4 1;tower 5 4 1;", 6, 35);
         lines("tower 4 4 0;hill 4 4;ground 5 5;", 3);
     }
 
@@ -224,6 +227,34 @@ public final class TextTest {
         fault("pace 1!", 1, 6);
         fault("ground 3 3;tower 8 8 1;pace 0;", 3, 28);
         fault("pace 10000;", 1, 5);
+    }
+
+    /** What stood behind the end is no part of the last TOKEN. */
+    private static void cutTokens() {
+        ChurchOrgan x = new ChurchOrgan();
+        Check.lay(x, "pace 34;");
+        x.end(6);
+        check.due("a cut number", x.land(), -16);
+        check.due("its fault", x.fault(), 2);
+        Check.lay(x, "run 3;pacex 3;");
+        x.end(10);
+        check.due("a cut name", x.land(), -20);
+        check.due("its fault", x.fault(), 2);
+        Check.lay(x, "pace 3;    run");
+        x.end(8);
+        check.due("cut between", x.land(), 1);
+        x.end(0);
+        for (int i = 0; i < 40; i++) {
+            x.feed(0x6161616161616161L);
+        }
+        check.due("a name up to the last byte", x.land(), -10);
+        Check.lay(x, " ".repeat(313) + "pace 3;");
+        check.due("a full tape", x.land(), 1);
+        Check.lay(x, " ".repeat(315) + "pace3");
+        check.due("a full tape without its end", x.land(), -330);
+        Check.lay(x, "9".repeat(320));
+        check.due("a number as long as the tape", x.land(), -10);
+        check.due("its fault", x.fault(), 1);
     }
 
     private static void askedOfTheLand() {
