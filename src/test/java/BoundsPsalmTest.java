@@ -201,6 +201,8 @@ public final class BoundsPsalmTest {
         Run four = Run.text("pace 1;tower 0 0 1;note 4 0;");
         bounds.goes(four, "both(3, 3, 0) = 0", "blown(0, 1) = 1", "both(4, 4, 0) = 0", "blown(0, 1) = 0", "both(5, 4, -1) = 1",
             "blown(0, 1) = 0", "both(4, 5, 1) = 0", "blown(0, 1) = 0");
+        bounds.goes(Runs.TWELVE_NOTES.times(24, "blow(0, 0, 0)"), "both(80, 0, -16) = 16", "count(3) = 12", "blown(11, 1) = 60",
+            "blown(11, 2) = 7", "blown(12, 0) = -1", "right(80) = 1016", "right(0) = 1000");
         bounds.says(25, "of each NOTE the least TOWER");
         bounds.goes(Run.text("tower 0 0 2;tower 0 0 3;tower 0 0 1;note 0 0;note 0 1;").then("blow(0, 9, 1)", "blow(0, 9, 1)",
             "blow(0, 9, 1)"), "both(0, 80, 16) = 0", "count(3) = 2", "blown(0, 0) = 1", "blown(1, 0) = 0");

@@ -55,6 +55,11 @@ public final class BoundsSheetsTest {
         Run changed = kept.then("move(0, 40)", "wind(0, 2)", "silence()", "carry(0, 1)", "carry(1, 254)", "blow(0, 4, 0)", "noted(4)");
         bounds.alike(changed.then("back(0)"), kept, "back(0) does not bring all");
         bounds.alike(changed.then("keep(1)", "back(0)", "back(1)"), changed.then("keep(1)"), "back(1) does not bring all");
+        bounds.goes(LAND.then("silence()", "blow(1, 200, 0)", "blow(0, 0, 7)", "noted(400)", "wind(2, 0)", "keep(1)")
+            .then("wind(0, 2)", "silence()", "carry(0, 0)", "move(0, 44)", "blow(1, 3, 0)", "carry(1, 3)", "move(1, 33)", "blow(1, 4, 1)",
+                "blow(1, 4, 1)"), "back(1) = 2", "blown(0, 0) = 1", "blown(0, 1) = 200", "blown(0, 2) = 0", "blown(1, 0) = 0",
+            "blown(1, 1) = 0", "blown(1, 2) = 7", "blown(2, 0) = -1", "rule(4) = 2", "rule(5) = 0", "tower(0, 0) = 0",
+            "tower(0, 1) = 255", "tower(1, 0) = 80", "tower(1, 1) = 1", "count(4) = 1", "lost(0) = 81");
         // it is no view: what is done later does not change it
         bounds.alike(kept.then("back(0)", "move(1, 3)", "silence()", "back(0)"), kept, "the image has changed");
         // what is no part of it stays: THE TAPE, its FAULT, SHEETS, torn()

@@ -106,6 +106,10 @@ public final class BoundsSoundTest {
         bounds.asks(Run.fresh(), "silence() = 0");
         bounds.goes(Runs.FULL_OF_BLOWS.times(24, "noted(400)"), "count(4) = 24", "silence() = 24", "count(3) = 0", "count(4) = 0",
             "silence() = 0", "forget() = 0", "blown(0, 0) = -1");
+        // what was blown is not heard any more, nor behind what is blown anew
+        bounds.goes(Runs.FULL_OF_BLOWS.then("silence()"), "heard(0, 7, true) = 0", "heard(0, 7, false) = 0", "heard(80, 200, true) = 0",
+            "span(0, 0) = -4", "men() = 0", "blow(0, 9, 7) = 1", "heard(0, 7, true) = 0", "heard(0, 9, true) = 128", "span(0, 0) = 9",
+            "span(0, 1) = 9", "span(0, 2) = 1", "men() = 1", "carry(0, 128) = 129", "runs(0, 1) = -1", "noted(1) = 1", "noted(1) = -2");
         bounds.goes(Runs.RICH, "silence() = 3", "fits(0) = -2", "noted(0) = -2", "span(0, 2) = 0", "count(5) = 2", "back(0) = 2");
     }
 
@@ -147,6 +151,12 @@ public final class BoundsSoundTest {
         bounds.cells(Run.fresh(), "span(#, 2)", 9, 9, 0);
         bounds.goes(Run.text("tower 0 0 1;hill 0 0;hill 8 8;hill 4 4;").times(24, "blow(0, 200, 0)"), "span(0, 2) = 96",
             "span(0, 0) = 200", "span(0, 1) = 232");
+        bounds.says(18, "The first BEAT (what 0), the last one (1) in which anything COMES to a CELL, with ECHOES");
+        // no HILL; the first and the last one by the last BLOW
+        Run two = Run.text("tower 0 0 1;").then("blow(0, 50, 0)");
+        bounds.asks(Runs.FULL_OF_BLOWS, "span(0, 0) = 7", "span(0, 1) = 216", "span(80, 0) = 23", "span(80, 1) = 200", "span(0, 2) = 24");
+        bounds.asks(two.then("blow(0, 49, 0)"), "span(0, 0) = 49", "span(0, 1) = 50");
+        bounds.asks(two.then("blow(0, 51, 0)"), "span(0, 0) = 50", "span(0, 1) = 51");
         bounds.says(18, "NONE: nothing (0, 1).");
         Run quiet = Run.text("tower 0 0 1;hill 4 4;note 0 0;");
         bounds.refused(quiet, "span(0, 0) = -4", "span(80, 1) = -4");

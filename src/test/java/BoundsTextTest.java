@@ -114,6 +114,13 @@ public final class BoundsTextTest {
         for (String text : texts) {
             bounds.alike(Runs.RICH.tells(text), bare.tells(text), "'" + text + "' does not tell all");
         }
+        // of what was told before, once and twice ago, nothing is left
+        String most = "tower 0 0 255;".repeat(6) + "hill 8 8;".repeat(3) + "note 60 7;".repeat(12);
+        Run small = Run.text(most).tells(most).tells("tower 4 4 1;note 0 0;note 0 1;");
+        bounds.goes(small, "plays(0) = -4", "twice(0, 80, 0) = 0", "twice(0, 80, 12) = -1", "both(0, 80, 0) = -4", "fewest(0) = -4",
+            "pipes(0) = 1", "pipes(2) = -4", "move(1, 0) = -1", "carry(1, 0) = -1", "blow(1, 0, 0) = -1", "blow(0, 0, 0) = 1",
+            "span(80, 2) = 1", "span(80, 1) = 8", "off(0) = -2", "right(0) = -4");
+        bounds.alike(small, Run.text("tower 4 4 1;note 0 0;note 0 1;"), "something is left");
         bounds.says(0, "no BLOWS, nothing NOTED; IMAGES are gone; SHEETS stay.");
         bounds.goes(Runs.RICH.then("land()"), "count(3) = 0", "count(4) = 0", "count(5) = 0", "back(0) = -2", "back(1) = -2",
             "count(7) = 40", "lay(3, 0, 0) = -12", "lay(1, 0, 0) = -11", "lay(2, 6, 0) = 1", "torn() = 2");
@@ -284,7 +291,10 @@ public final class BoundsTextTest {
             taken(text + ";", 1);
             fault(text + ";;", 2, text.length() + 1);
             fault(text + "; 5", 2, text.length() + 2);
-            // a NAME that is shorter or longer by one letter begins no line
+            // a NAME with another letter, or shorter or longer by one, begins no line
+            for (int i = 0; i < words[0].length(); i++) {
+                fault(words[0].substring(0, i) + 'z' + words[0].substring(i + 1) + " 1;", 2, 0);
+            }
             fault(words[0].substring(0, words[0].length() - 1) + " 1;", 2, 0);
             fault(words[0].substring(1) + " 1;", 2, 0);
             fault(words[0] + "s 1;", 2, 0);
@@ -303,6 +313,11 @@ public final class BoundsTextTest {
             fault(line + name + "!", 4, line.length());
             // two texts may each tell it
             taken(line, 1, "fault() = 0");
+        }
+        String four = "ground 9 9;pace 2;run 3;wind 1 1;";
+        taken(four, 4);
+        for (String name : new String[] {"ground", "pace", "run", "wind"}) {
+            fault(four + name, 4, four.length());
         }
         bounds.goes(Run.text("pace 3;").laid("pace 3;"), "land() = 1", "fault() = 0");
         taken("tower 0 0 1;tower 0 0 1;hill 0 0;hill 0 0;note 0 0;note 0 0;", 6);

@@ -72,6 +72,9 @@ public final class BoundsTowersTest {
             steps = steps.then("blow(0, " + (23 - i) + ", 0)");
         }
         bounds.asks(steps, "men() = 1");
+        // asked again, behind other BLOWS
+        bounds.goes(steps, "men() = 1", "men() = 1", "silence() = 24", "men() = 0", "blow(0, 5, 0) = 1", "blow(0, 5, 0) = 2", "men() = 2",
+            "blow(0, 4, 0) = 3", "men() = 2", "blow(1, 4, 0) = 4", "men() = 3", "blow(1, 76, 0) = 5", "men() = 3");
         bounds.says(0, "A MAN blows one BLOW in a BEAT");
         bounds.asks(one.then("blow(0, 5, 0)", "blow(0, 5, 0)"), "men() = 2");
         bounds.asks(one.then("blow(0, 5, 0)", "blow(0, 6, 0)"), "men() = 1");
